@@ -10,6 +10,7 @@ public final class BestTest {
         mostIsNotBelowAllThatGo();
         sharpest();
         push();
+        eight();
         Due.end();
     }
 
@@ -32,6 +33,9 @@ public final class BestTest {
         x.set(0, 3, 0);
         x.set(0, 1, 0);
         Due.is("borrow(0) without a grudge", x.borrow(0), Due.NONE);
+        Due.put(x, 2, 20, 1, 0, 1, 99, 0);
+        Due.put(x, 0, 20, -1, 0, 0, 50, 0);
+        Due.is("borrow(2) of the first", x.borrow(2), 0);
         for (int person : NOT_THERE) {
             Due.is("borrow of one not there", x.borrow(person), Due.BEYOND);
         }
@@ -161,5 +165,24 @@ public final class BestTest {
         x.set(1, 3, 0);
         x.set(0, 3, 1);
         Due.is("push() with another up", x.push(), 0);
+    }
+
+    /** As many as there may be: the last of them counts as all others do. */
+    private static void eight() {
+        GrudgeGlasses x = Due.quayOf(0, 0, 0, 0, 0, 0, 0, 0);
+        Due.put(x, 7, 20, 7, 0, 0, 99, 0);
+        Due.is("sharpest(5)", x.sharpest(5), 7);
+        Due.is("push() of the one that is seen", x.push(), 1);
+        Due.is("unseen(0)", x.unseen(0), 70);
+        Due.is("borrow(7)", x.borrow(7), Due.NONE);
+        Due.is("better(7, 60)", x.better(7, 60), 0);
+        Due.is("image()", x.image(), 1);
+        Due.is("days(1)", x.days(1), 8 * 19);
+        Due.is("count(3)", x.count(3), 1);
+        Due.is("now(3)", x.now(3), 1);
+        Due.is("undo()", x.undo(), 8);
+        Due.is("now(1)", x.now(1), 8 * 20);
+        Due.is("now(2)", x.now(2), 0);
+        Due.is("count(2)", x.count(2), 7);
     }
 }

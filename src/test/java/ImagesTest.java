@@ -88,6 +88,7 @@ public final class ImagesTest {
         Due.put(x, 2, 50, 2, 1, 2, 60, 7);
         x.image();
         Due.quay(x, "saint;twin grudge 5 at 2", 2);
+        Due.put(x, 3, 77, 0, 1, 4, 66, 55);
         Due.is("undo()", x.undo(), 3);
         Due.is("person(5)", x.person(5), 3);
         int[] fresh = {5, 20, -1, 0, -1, 0, 0};

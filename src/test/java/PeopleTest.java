@@ -56,6 +56,7 @@ public final class PeopleTest {
         for (int person : NOT_THERE) {
             Due.is("of one not there", x.of(person, 1), Due.BEYOND);
         }
+        Due.is("status(0)", x.status(0), 2 + NOT_THERE.length);
     }
 
     private static void grinds() {

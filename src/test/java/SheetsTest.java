@@ -29,7 +29,9 @@ public final class SheetsTest {
                 }
                 Due.is("sheet(" + s + ", " + b + ", 3)", x.sheet(s, b, 3), 3);
                 Due.is("write(" + s + ", 3, 7)", x.write(s, 3, 7), Due.BEYOND);
-                Due.is("write(" + s + ", 2, 7)", x.write(s, 2, 7), 0);
+                for (int i = 0; i < 3; i++) {
+                    Due.is("write(" + s + ", " + i + ", 7)", x.write(s, i, 7), 0);
+                }
                 Due.is("sheet(" + s + ", " + b + ", 0)", x.sheet(s, b, 0), 0);
                 Due.is("write(" + s + ", 0, 7)", x.write(s, 0, 7), Due.BEYOND);
                 Due.is("sheet(" + s + ", 0, 5)", x.sheet(s, 0, 5), 0);
@@ -205,6 +207,12 @@ public final class SheetsTest {
         Due.put(x, 0, 95, 1, 0, 1, 99, 0);
         Due.is("book(0, 0)", x.book(0, 0), 9);
         numbers(x, 0, 95, 96, 97, 98, 99, 99, 99, 99, 99);
+        x.sheet(0, 64, 40);
+        Due.is("book(0, 0) of 40", x.book(0, 0), 40);
+        Due.is("read(0, 0) of 40 is its own at least", x.read(0, 0) > 0 ? 1 : 0, 1);
+        for (int i = 0; i < 40; i++) {
+            Due.is("number " + i, x.write(0, i, 0), x.on(0, i, 0));
+        }
         x.sheet(0, 8, 0);
         Due.is("book(0, 0) of none", x.book(0, 0), 0);
     }

@@ -121,6 +121,7 @@ public final class TextTest {
             "Person", "person.", "person\t", "person\n;saint", "person,", "person grudge -5", "person grudge 5.",
             "person grudge +5", "person;UP 0", "person;u p 0", "person:", "pe\u0000", "\u00e9", "person\u00ff",
             "person;upp 0", "person;gri nd", "person grudge100", "person at 0 at 0", "person @", "person`", "person{",
+            "personz", "qerson", "person grudge a", "person grudge z", "up a", "grind a",
             "person grudge /", "person grudge :", "widow at 0;down 0;up 1", "person grudge 12345678901234567890",
         };
         int[] places = {
@@ -133,6 +134,7 @@ public final class TextTest {
             0, 6, 6, 6, 6, 14, 15,
             14, 7, 7, 6, 0, 0, 6,
             7, 7, 13, 12, 7, 6, 6,
+            0, 0, 14, 14, 3, 6,
             14, 14, 21, 14,
         };
         Due.is("as many places as texts", places.length, texts.length);
@@ -177,5 +179,11 @@ public final class TextTest {
         Due.quay(x, text.toString(), 30);
         Due.is("now(4)", x.now(4), 1);
         Due.quay(x, text.append(";").toString(), -1 - 120);
+        String blanks = " ".repeat(100);
+        Due.quay(x, blanks + "saint grudge 5 at 00", 1);
+        Due.is("of(1, 1)", x.of(1, 1), 5);
+        Due.quay(x, blanks + "up 0;up 1;     saint", 3);
+        Due.is("now(4)", x.now(4), 3);
+        Due.quay(x, blanks + "saint         grudge", -1 - 120);
     }
 }
