@@ -98,8 +98,8 @@ public final class BestTest {
 
     /** What most answers is what on answers, tried from above. */
     private static void mostIsNotBelowAllThatGo() {
-        GrudgeGlasses x = Due.quayOf(Due.BRIDE, 0);
         for (int power = 0; power <= 99; power += 11) {
+            GrudgeGlasses x = Due.quayOf(Due.BRIDE, 0);
             Due.put(x, 0, 20, 1, 0, 1, power, 0);
             int answer = x.most(0, 60);
             int want = Due.NONE;

@@ -11,6 +11,7 @@ public final class TextTest {
         faultsChangeNothing();
         theNinth();
         manyItems();
+        manyBlanks();
         Due.end();
     }
 
@@ -179,6 +180,10 @@ public final class TextTest {
         Due.quay(x, text.toString(), 30);
         Due.is("now(4)", x.now(4), 1);
         Due.quay(x, text.append(";").toString(), -1 - 120);
+    }
+
+    private static void manyBlanks() {
+        GrudgeGlasses x = Due.quayOf(0);
         String blanks = " ".repeat(100);
         Due.quay(x, blanks + "saint grudge 5 at 00", 1);
         Due.is("of(1, 1)", x.of(1, 1), 5);
