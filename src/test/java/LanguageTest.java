@@ -63,6 +63,11 @@ public final class LanguageTest {
                 Due.isTrue(m + " has a name of its own", !names.contains(m.getName()));
             }
         }
+        for (Class<?> inner : GrudgeGlasses.class.getDeclaredClasses()) {
+            for (Method m : inner.getDeclaredMethods()) {
+                Due.isTrue(m + " has a name of its own", !names.contains(m.getName()));
+            }
+        }
         for (Field f : GrudgeGlasses.class.getDeclaredFields()) {
             Due.isTrue(f + " is private", Modifier.isPrivate(f.getModifiers()));
         }
